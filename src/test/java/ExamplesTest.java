@@ -1,0 +1,57 @@
+import java.util.NoSuchElementException;
+
+/** The four examples of section 7. */
+public final class ExamplesTest {
+    public static void main(String[] args) {
+        steps();
+        nulls();
+        sums();
+        errors();
+        Check.end();
+    }
+
+    private static void steps() {
+        ColumnTable t = new ColumnTable();
+        Check.due("addColumn", Check.column(t, "n", 3), 0);
+        Check.due("setSegmentSize", t.setSegmentSize(4), 16);
+        Check.due("setLong", t.setLong(0, 10L), 10L);
+        Check.due("setStep", t.setStep(0, 2.0), 2.0);
+        Check.due("addRows", t.addRows(4), 0);
+        Check.due("encoding", t.encoding(0, 0), 3);
+        Check.due("bits", t.bits(0, 0), 128L);
+        Check.due("select", Check.select(t, "n > 13"), 2);
+        Check.due("comparisons", t.comparisons(), 2L);
+    }
+
+    private static void nulls() {
+        ColumnTable t = new ColumnTable();
+        Check.due("addColumn", Check.column(t, "a", 1), 0);
+        Check.due("addRows", t.addRows(1), 0);
+        Check.due("setLong", t.setLong(0, 5L), 5L);
+        Check.due("addRows", t.addRows(1), 1);
+        Check.due("not a = 4", Check.select(t, "not a = 4"), 1);
+        Check.due("selected", t.selected(0), 1);
+        Check.due("a is null", Check.select(t, "a is null"), 1);
+    }
+
+    private static void sums() {
+        ColumnTable t = new ColumnTable();
+        Check.due("addColumn", Check.column(t, "p", 5), 0);
+        Check.due("setDouble", t.setDouble(0, 1.25), 1.25);
+        Check.due("addRows", t.addRows(3), 0);
+        Check.due("selectAll", t.selectAll(), 3);
+        Check.due("sumDouble", t.sumDouble(0), 3.75);
+        Check.due("delete", t.delete(), 3);
+        Check.due("rowCount", t.rowCount(), 0);
+        Check.dueThrow("getDouble", NoSuchElementException.class, () -> t.getDouble(1, 0));
+    }
+
+    private static void errors() {
+        ColumnTable t = new ColumnTable();
+        Check.due("addColumn", Check.column(t, "q", 0), 0);
+        Check.dueThrow("q = 1", IllegalArgumentException.class, () -> Check.select(t, "q = 1"));
+        Check.due("errorKind", t.errorKind(), 3);
+        Check.due("errorPosition", t.errorPosition(), 0);
+        Check.dueThrow("addRows", IllegalArgumentException.class, () -> t.addRows(0));
+    }
+}
