@@ -10,8 +10,8 @@ public final class ColumnTable {
     private static final int MOST_ADDED_AT_ONCE = 100;
     private static final int LONGEST_SEGMENT = 64;
     private static final int BYTES_FED = 20;
-    private static final double LARGEST_REAL = 1.0e9;
-    private static final double LARGEST_STEP = 1.0e6;
+    private static final int LARGEST_REAL = 1000000000;
+    private static final int LARGEST_STEP = 1000000;
 
     private static final int BOOLEAN = 0;
     private static final int SHORT = 1;
@@ -613,7 +613,7 @@ public final class ColumnTable {
         return d;
     }
 
-    private static boolean isWithin(double value, double limit) {
+    private static boolean isWithin(double value, int limit) {
         return value >= -limit && value <= limit;
     }
 
@@ -712,7 +712,7 @@ public final class ColumnTable {
                 case SHORT: return value >= -32768 && value <= 32767;
                 case CHAR: return value >= 0 && value <= 65535;
                 case LONG: return true;
-                default: return value >= -1000000000L && value <= 1000000000L;
+                default: return value >= -LARGEST_REAL && value <= LARGEST_REAL;
             }
         }
 
@@ -1446,8 +1446,7 @@ public final class ColumnTable {
             double quotient = (double) number / (double) scale;
             double nearest = column.kind == FLOAT ? (double) (float) quotient : quotient;
             real = isNegative ? -nearest : nearest;
-            long limit = 1000000000L;
-            return number / scale < limit || number / scale == limit && number % scale == 0;
+            return number / scale < LARGEST_REAL || number / scale == LARGEST_REAL && number % scale == 0;
         }
     }
 

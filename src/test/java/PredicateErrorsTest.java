@@ -139,6 +139,9 @@ public final class PredicateErrorsTest {
         due(repeated("not ", 19) + "b and " + repeated("not ", 19) + "b", "none");
         due(repeated("(", 19) + "b is not null" + repeated(")", 19), "none");
         due(repeated("(", 25), "1 at 19");
+        due(repeated("(", 200), "1 at 19");
+        due(repeated("b or ", 39) + "not b", "none");
+        due(repeated("b or ", 39) + "b or ", "1 at 200");
         due(repeated("(", 18) + "b) and (b or (x", "1 at " + (18 + 15));
     }
 
@@ -229,6 +232,9 @@ public final class PredicateErrorsTest {
         ColumnTable t = table();
         t.addRows(2);
         t.selectAll();
+        Check.due("an unclosed one", Check.error(t, "((b"), "1 at 3");
+        Check.due("is forgotten", Check.error(t, "b)"), "1 at 1");
+        Check.due("a closed one, too", Check.error(t, "(b) and b)"), "1 at 9");
         Check.due("a text with an error", Check.error(t, "zz"), "2 at 0");
         Check.due("the selection stays", t.selectedCount(), 2);
         Check.dueThrow("the buffer is empty", IllegalArgumentException.class, () -> t.trim(1));

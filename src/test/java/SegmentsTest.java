@@ -66,6 +66,7 @@ public final class SegmentsTest {
         Check.due("full and open", t.compact(), 2);
         Check.due("full", t.segmentRows(0) + " " + t.isOpen(0), "4 false");
         Check.due("open", t.segmentRows(1) + " " + t.isOpen(1), "2 true");
+        Check.due("encoded anew", code(t, 0, 0), "3 134 4");
         Check.select(t, "a = 1");
         t.delete();
         t.selectAll();
@@ -182,6 +183,15 @@ public final class SegmentsTest {
         ColumnTable t = table(4, 64);
         t.addRows(7);
         codeDue("nulls alone take no bits", t, "2 0 0");
+        ColumnTable f = table(4, 2);
+        f.setDouble(0, 0.5);
+        f.setStep(0, 1);
+        f.addRows(2);
+        Check.due("floats", code(f, 0, 0), "0 64 2");
+        Check.due("their zone", f.zoneLow(0, 0) + " " + f.zoneHigh(0, 0), "0.5 1.5");
+        f.setStep(0, 0);
+        f.addRows(2);
+        Check.due("a float twice", code(f, 1, 0), "2 32 1");
         ColumnTable u = table(5, 64);
         for (double value : new double[] {0.0, -0.0, 0.0, -0.0}) {
             u.setDouble(0, value);

@@ -95,7 +95,11 @@ public final class TextAndColumnsTest {
         Check.column(t, "a", 3);
         t.addRows(4);
         Check.due("segments of 3", t.segmentRows(0), 3);
-        Check.dueThrow("behind a row", IllegalStateException.class, () -> t.setSegmentSize(3));
+        Check.dueThrow("behind rows", IllegalStateException.class, () -> t.setSegmentSize(3));
+        ColumnTable u = new ColumnTable();
+        Check.column(u, "a", 3);
+        u.addRows(1);
+        Check.dueThrow("behind one row", IllegalStateException.class, () -> u.setSegmentSize(3));
         Check.dueThrow("a wrong size first", IllegalArgumentException.class, () -> t.setSegmentSize(0));
     }
 
