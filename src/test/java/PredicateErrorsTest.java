@@ -231,10 +231,11 @@ public final class PredicateErrorsTest {
     private static void results() {
         ColumnTable t = table();
         t.addRows(2);
-        t.selectAll();
         Check.due("an unclosed one", Check.error(t, "((b"), "1 at 3");
-        Check.due("is forgotten", Check.error(t, "b)"), "1 at 1");
-        Check.due("a closed one, too", Check.error(t, "(b) and b)"), "1 at 9");
+        Check.due("is forgotten", Check.error(t, "s)"), "1 at 1");
+        Check.due("a closed one, too", Check.error(t, "(b) and s)"), "1 at 9");
+        Check.due("and the text can end then", Check.error(t, "(b) and x"), "none");
+        t.selectAll();
         Check.due("a text with an error", Check.error(t, "zz"), "2 at 0");
         Check.due("the selection stays", t.selectedCount(), 2);
         Check.dueThrow("the buffer is empty", IllegalArgumentException.class, () -> t.trim(1));
