@@ -4,6 +4,8 @@ import java.util.function.Supplier;
 final class Check {
     private static int wrong = 0;
     private static int made = 0;
+    /** What is said in front of each wrong answer: the sentence that is tested. */
+    static String within = "";
 
     private Check() {
     }
@@ -12,8 +14,12 @@ final class Check {
         made++;
         if (!want.equals(got)) {
             wrong++;
-            System.out.println(what + " answered " + got + ", due is " + want);
+            System.out.println(within + what + " answered " + got + ", due is " + want);
         }
+    }
+
+    static int made() {
+        return made;
     }
 
     /** An answer, or what the call throws as the simple name of the exception. */
