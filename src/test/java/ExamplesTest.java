@@ -1,12 +1,13 @@
 import java.util.NoSuchElementException;
 
-/** The four examples of section 7. */
+/** The four examples of section 7, and a run of as many calls as the document allows. */
 public final class ExamplesTest {
     public static void main(String[] args) {
         steps();
         nulls();
         sums();
         errors();
+        manyCalls();
         Check.end();
     }
 
@@ -53,5 +54,31 @@ public final class ExamplesTest {
         Check.due("errorKind", t.errorKind(), 3);
         Check.due("errorPosition", t.errorPosition(), 0);
         Check.dueThrow("addRows", IllegalArgumentException.class, () -> t.addRows(0));
+    }
+
+    /** 512 calls: 4 to begin with, then 36 times 14 for a predicate of 200 bytes, and 4 more. */
+    private static void manyCalls() {
+        ColumnTable t = new ColumnTable();
+        Check.column(t, "b", 0);
+        t.addRows(100);
+        String longest = "not (b) and not b or ".repeat(9) + "b or b or b";
+        Check.due("bytes", longest.length(), 200);
+        for (int i = 0; i < 36; i++) {
+            t.setLong(0, i % 2);
+            t.addRows(1);
+            for (int from = 0; from < 200; from += 20) {
+                int[] words = new int[5];
+                for (int k = 0; k < 20; k++) {
+                    words[k / 4] = words[k / 4] << 8 | longest.charAt(from + k);
+                }
+                Check.due("feed", t.feed(words[0], words[1], words[2], words[3], words[4]), from + 20);
+            }
+            Check.due("select", t.select(), i + 1);
+            t.selectAll();
+        }
+        Check.due("rows", t.rowCount(), 136);
+        Check.due("comparisons", t.comparisons(), 0L);
+        Check.due("segments", t.segmentCount(), 9);
+        Check.due("the 512th call", t.selectedCount(), 136);
     }
 }

@@ -180,6 +180,8 @@ public final class Promises46To53Test {
         doc.hold("Returns the number of its rows.", () -> {
             ColumnTable t = grouped();
             Check.due("sizes", t.groupSize(0) + " " + t.groupSize(1) + " " + t.groupSize(2), "2 1 2");
+            t.group(0, 1);
+            Check.due("the same again", t.groupSize(0) + " " + t.groupSize(1) + " " + t.groupSize(2), "2 1 2");
             ColumnTable full = Tables.of(64, 0);
             full.setLong(0, 1);
             full.addRows(100);
@@ -197,6 +199,8 @@ public final class Promises46To53Test {
         doc.hold("Returns the sum of the values of the summed column in its rows, as sumDouble computes it.", () -> {
             ColumnTable t = grouped();
             Check.due("sums", t.groupSum(0) + " " + t.groupSum(1) + " " + t.groupSum(2), "1.0 8.0 4.5");
+            t.group(0, 1);
+            Check.due("the same again", t.groupSum(0) + " " + t.groupSum(1) + " " + t.groupSum(2), "1.0 8.0 4.5");
             ColumnTable z = Tables.of(16, 1, 5);
             z.setLong(0, 1);
             for (double value : new double[] {1e9, 1e-8, -1e9, 1e-8}) {
@@ -352,6 +356,17 @@ public final class Promises46To53Test {
             Check.due("a FLOAT that is rounded to 10^9", selectedReals(4, 1).multiply(0, 1e9), 1);
             Check.due("from above, too", selectedReals(4, 1e9).multiply(0, 1 + 3.2e-8), 1);
             Tables.refused("a FLOAT that is not", ARITHMETIC, () -> selectedReals(4, 1e9), t -> t.multiply(0, 1 + 3.3e-8));
+            ColumnTable full = Tables.of(64, 5);
+            full.setDouble(0, 2);
+            full.addRows(100);
+            full.addRows(100);
+            full.addRows(100);
+            full.selectAll();
+            Check.due("300 rows", full.multiply(0, 5e8), 300);
+            Check.dueThrow("too large in all of them", ARITHMETIC, () -> full.multiply(0, 2));
+            ColumnTable before = selectedReals(5, 1, 1e9);
+            Check.select(before, "a = 1");
+            Check.due("rows that were selected before do not count", before.multiply(0, 2), 1);
             ColumnTable other = selectedReals(5, 1e9, 1);
             Check.select(other, "a = 1");
             Check.due("rows that are not selected do not count", other.multiply(0, 2), 1);

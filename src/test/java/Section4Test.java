@@ -369,6 +369,10 @@ public final class Section4Test {
             due("(s  ", "1 at 4");
             due("((b) and s", "1 at 10");
             due("(b) and s", "3 at 8");
+            ColumnTable t = named();
+            Check.due("an unclosed one", Check.error(t, "((b"), "1 at 3");
+            Check.due("is not one of the next text", Check.error(t, "s)"), "1 at 1");
+            Check.due("which can end then", Check.error(t, "s"), "3 at 0");
         });
         doc.hold("A second name must be of an integer type if the first one is, and of a floating type if the first one is; this is"
                 + " found when the second name has been read.", () -> {
@@ -597,6 +601,7 @@ public final class Section4Test {
             Check.due("-7 % 4", Check.picked(t, "a % 4 = -3"), "1 / 5");
             Check.due("% -4", Check.picked(t, "a % -4 = 3"), "0 4 / 5");
             Check.due("% 1", Check.picked(t, "a % 1 = 0"), "0 1 2 3 4 / 5");
+            Check.due("% 1 is never 1", Check.picked(t, "a % 1 = 1 or a % -1 = -1"), "/ 10");
             Check.due("% -1, also of the least long", Check.picked(t, "a % -1 = 0"), "0 1 2 3 4 / 5");
             Check.due("% the least long", Check.picked(t, "a % -9223372036854775808 = 0"), "3 / 5");
             Check.due("% the greatest long", Check.picked(t, "a % 9223372036854775807 = -1"), "3 / 5");

@@ -14,6 +14,7 @@ final class Sentences {
     private final Map<String, String> texts = new LinkedHashMap<>();
     private final Map<String, boolean[]> named = new LinkedHashMap<>();
     private String place = "";
+    private int held;
 
     /** Places are "section 3" or "promise 12", as the headings of the document number them. */
     Sentences(String kind, int first, int last) throws Exception {
@@ -60,6 +61,7 @@ final class Sentences {
         if (from >= 0) {
             Arrays.fill(named.get(place), from, from + words.length(), true);
         }
+        held++;
         int before = Check.made();
         test.run();
         Check.due("its test checks something", Check.made() > before, true);
@@ -71,6 +73,7 @@ final class Sentences {
             Check.due(each + " stands in the document", texts.get(each).isBlank(), false);
             Check.due(each + ", words without a test", unnamed(texts.get(each), named.get(each)), new ArrayList<String>());
         }
+        System.out.println(held + " sentences");
         Check.end();
     }
 

@@ -99,15 +99,20 @@ final class Tables {
         return result.toString();
     }
 
-    /** The number of bytes in the text buffer: the greatest length to which it can be cut. */
+    /** The number of bytes in the text buffer, which stays as it is. */
     static int buffered(ColumnTable t) {
-        for (int length = 200; length > 0; length--) {
+        String fed = Check.outcome(() -> t.feed(0, 0, 0, 0, 0));
+        if (!fed.endsWith("Exception")) {
+            return t.trim(Integer.parseInt(fed) - 20);
+        }
+        // The greatest length to which it can be cut; more than 180, as twenty bytes found no room.
+        for (int length = 200; length > 180; length--) {
             int wanted = length;
-            if (Check.outcome(() -> t.trim(wanted)).equals(String.valueOf(length))) {
-                return length;
+            if (Check.outcome(() -> t.trim(wanted)).equals(String.valueOf(wanted))) {
+                return wanted;
             }
         }
-        return 0;
+        return -1;
     }
 
     /** The call throws, and a twin that never saw it is in the same state. */
@@ -136,7 +141,7 @@ final class Tables {
         s.append(" error ").append(t.errorKind()).append(' ').append(t.errorPosition());
         s.append(" comparisons ").append(t.comparisons()).append(" bits ").append(t.totalBits());
         s.append(" selection ").append(selection(t)).append(" groups ");
-        for (int i = 0; i < t.addedCount() + 1; i++) {
+        for (int i = 0; i <= Math.min(t.addedCount(), MOST_ROWS_LOOKED_AT); i++) {
             int group = i;
             s.append(Check.outcome(() -> t.groupRow(group))).append(' ');
             s.append(Check.outcome(() -> t.groupSize(group))).append(' ');
