@@ -384,8 +384,7 @@ public final class ColumnTable {
         for (int s = 0; s < segments.count; s++) {
             long live = segments.liveRowsOf(s);
             if (live != 0) {
-                evaluator.enter(s, live);
-                evaluator.judge(predicate);
+                evaluator.judge(predicate, s, live);
                 pick(s, predicate.yes & live);
                 counted += evaluator.counted;
             }
@@ -1446,7 +1445,8 @@ public final class ColumnTable {
             double quotient = (double) number / (double) scale;
             double nearest = column.kind == FLOAT ? (double) (float) quotient : quotient;
             real = isNegative ? -nearest : nearest;
-            return number / scale < LARGEST_REAL || number / scale == LARGEST_REAL && number % scale == 0;
+            // What 15 digits can tell above 10^9 is above it by 10^-5 or more, which no rounding hides.
+            return quotient <= LARGEST_REAL;
         }
     }
 
@@ -1585,20 +1585,21 @@ public final class ColumnTable {
             this.segments = segments;
         }
 
-        /** From here on the tests are judged for this segment, and counted from 0. */
-        void enter(int newSegment, long liveRows) {
+        /** Puts down, in the nodes, for which rows of the segment they are true or false. */
+        void judge(Node root, int newSegment, long liveRows) {
             segment = newSegment;
             length = segments.lengthOf(newSegment);
             live = liveRows;
             counted = 0;
+            judgeNode(root);
         }
 
-        /** The parser's limit of 20 nested factors bounds the depth. */
-        void judge(Node node) {
+        /** The parser refuses more than 20 nested factors, so the nodes are some 40 deep at most. */
+        private void judgeNode(Node node) {
             if (node.first == null) {
                 judgeTest(node);
             } else if (node.kind == Node.NEGATION) {
-                judge(node.first);
+                judgeNode(node.first);
                 node.yes = node.first.no;
                 node.no = node.first.yes;
             } else {
@@ -1608,7 +1609,7 @@ public final class ColumnTable {
 
         private void judgeJunction(Node node) {
             boolean isAll = node.kind == Node.ALL;
-            judge(node.first);
+            judgeNode(node.first);
             node.yes = node.first.yes;
             node.no = node.first.no;
             for (Node part = node.first.next; part != null; part = part.next) {
@@ -1616,7 +1617,7 @@ public final class ColumnTable {
                 if ((settled & live) == live) {
                     break;
                 }
-                judge(part);
+                judgeNode(part);
                 node.yes = isAll ? node.yes & part.yes : node.yes | part.yes;
                 node.no = isAll ? node.no | part.no : node.no & part.no;
             }

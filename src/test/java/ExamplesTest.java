@@ -1,14 +1,80 @@
+import java.lang.reflect.InvocationTargetException;
+import java.lang.reflect.Method;
+import java.nio.file.Files;
+import java.nio.file.Path;
 import java.util.NoSuchElementException;
 
-/** The four examples of section 7, and a run of as many calls as the document allows. */
+/**
+ * The four examples of section 7: as they stood in the document when this test was written, and, call
+ * by call, as they stand there now; and a run of as many calls as the document allows.
+ */
 public final class ExamplesTest {
-    public static void main(String[] args) {
+    public static void main(String[] args) throws Exception {
+        asTold();
         steps();
         nulls();
         sums();
         errors();
         manyCalls();
         Check.end();
+    }
+
+    /** An example is a line like "  1. What it shows: "n"; addColumn(3) = 0; .. select() = 2." */
+    private static void asTold() throws Exception {
+        int examples = 0;
+        boolean isBehindHeading = false;
+        for (String line : Files.readAllLines(Path.of("../shared/DOC.md"))) {
+            isBehindHeading |= line.startsWith("Examples:");
+            if (isBehindHeading && line.matches("  \\d\\. .*: .*\\.")) {
+                examples++;
+                Check.within = "example " + examples + ": ";
+                example(line.substring(line.indexOf(": ") + 2, line.length() - 1).split("; "));
+            }
+        }
+        Check.within = "";
+        Check.due("examples in the document", examples, 4);
+    }
+
+    private static void example(String[] rows) throws Exception {
+        ColumnTable t = new ColumnTable();
+        for (String row : rows) {
+            if (row.startsWith("\"")) {
+                Check.put(t, row.substring(1, row.length() - 1));
+            } else {
+                String[] sides = row.split(" = ", 2);
+                String want = sides[1].startsWith("throws ") ? sides[1].substring("throws ".length()) : sides[1];
+                Check.due(sides[0], answer(t, sides[0]), want);
+            }
+        }
+    }
+
+    private static String answer(ColumnTable t, String call) throws Exception {
+        String inside = call.substring(call.indexOf('(') + 1, call.length() - 1);
+        String[] given = inside.isEmpty() ? new String[0] : inside.split(", ");
+        for (Method method : ColumnTable.class.getMethods()) {
+            if (method.getName().equals(call.substring(0, call.indexOf('(')))) {
+                Object[] values = new Object[given.length];
+                for (int i = 0; i < given.length; i++) {
+                    values[i] = value(given[i], method.getParameterTypes()[i]);
+                }
+                try {
+                    return String.valueOf(method.invoke(t, values));
+                } catch (InvocationTargetException e) {
+                    return e.getCause().getClass().getSimpleName();
+                }
+            }
+        }
+        return "no such method";
+    }
+
+    private static Object value(String text, Class<?> type) {
+        if (type == int.class) {
+            return Integer.valueOf(text);
+        }
+        if (type == long.class) {
+            return Long.valueOf(text.replace("L", ""));
+        }
+        return type == double.class ? (Object) Double.valueOf(text) : Boolean.valueOf(text);
     }
 
     private static void steps() {

@@ -3,7 +3,10 @@ import com.sun.source.tree.CatchTree;
 import com.sun.source.tree.ClassTree;
 import com.sun.source.tree.CompilationUnitTree;
 import com.sun.source.tree.CompoundAssignmentTree;
+import com.sun.source.tree.ConditionalExpressionTree;
+import com.sun.source.tree.ExpressionTree;
 import com.sun.source.tree.LambdaExpressionTree;
+import com.sun.source.tree.LiteralTree;
 import com.sun.source.tree.MemberReferenceTree;
 import com.sun.source.tree.MethodInvocationTree;
 import com.sun.source.tree.MethodTree;
@@ -11,6 +14,7 @@ import com.sun.source.tree.NewClassTree;
 import com.sun.source.tree.Tree;
 import com.sun.source.tree.VariableTree;
 import com.sun.source.util.JavacTask;
+import com.sun.source.util.TreePath;
 import com.sun.source.util.TreePathScanner;
 import com.sun.source.util.Trees;
 import java.io.File;
@@ -44,6 +48,7 @@ public final class LanguageTest extends TreePathScanner<Void, String> {
     private final CompilationUnitTree unit;
     private final Trees trees;
     private final Map<String, Set<String>> calls = new TreeMap<>();
+    private final Set<String> privates = new HashSet<>();
     private int classes;
 
     private LanguageTest(CompilationUnitTree unit, Trees trees) {
@@ -103,6 +108,9 @@ public final class LanguageTest extends TreePathScanner<Void, String> {
         Check.due(name + " has some sixty lines", last - first < 60, true);
         Check.due(name + " has seven parameters", tree.getParameters().size() <= 7, true);
         calls.putIfAbsent(name, new TreeSet<>());
+        if (tree.getModifiers().getFlags().contains(Modifier.PRIVATE)) {
+            privates.add(name);
+        }
         return super.visitMethod(tree, name);
     }
 
@@ -132,10 +140,29 @@ public final class LanguageTest extends TreePathScanner<Void, String> {
     public Void visitBinary(BinaryTree tree, String caller) {
         String type = trees.getTypeMirror(getCurrentPath()).toString();
         boolean isRemainder = tree.getKind() == Tree.Kind.REMAINDER;
-        if (type.equals("java.lang.String") || isRemainder && !type.equals("int") && !type.equals("long")) {
+        boolean isWhole = type.equals("int") || type.equals("long");
+        if (type.equals("java.lang.String") || isRemainder && !isWhole) {
+            banned(tree);
+        }
+        boolean isDivision = isRemainder || tree.getKind() == Tree.Kind.DIVIDE;
+        if (isDivision && isWhole && !isTested(tree.getRightOperand())) {
             banned(tree);
         }
         return super.visitBinary(tree, caller);
+    }
+
+    /** A divisor is a literal, or stands in "divisor == 0 ? .. : ..". */
+    private boolean isTested(ExpressionTree divisor) {
+        if (divisor instanceof LiteralTree) {
+            return !divisor.toString().equals("0");
+        }
+        for (TreePath path = getCurrentPath(); path != null; path = path.getParentPath()) {
+            if (path.getLeaf() instanceof ConditionalExpressionTree) {
+                String condition = ((ConditionalExpressionTree) path.getLeaf()).getCondition().toString();
+                return condition.equals("(" + divisor + " == 0)") || condition.equals(divisor + " == 0");
+            }
+        }
+        return false;
     }
 
     @Override
@@ -169,6 +196,7 @@ public final class LanguageTest extends TreePathScanner<Void, String> {
         for (String method : calls.keySet()) {
             if (reached(method).contains(method)) {
                 recursive.add(method);
+                Check.due(method + ", a recursion, is private", privates.contains(method), true);
             }
         }
         for (String method : calls.keySet()) {

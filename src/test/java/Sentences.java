@@ -18,12 +18,23 @@ final class Sentences {
 
     /** Places are "section 3" or "promise 12", as the headings of the document number them. */
     Sentences(String kind, int first, int last) throws Exception {
-        Map<String, StringBuilder> found = read(Files.readAllLines(Path.of("../shared/DOC.md")));
         for (int i = first; i <= last; i++) {
-            String text = found.getOrDefault(kind + " " + i, new StringBuilder()).toString().replaceAll("\\s+", " ");
-            texts.put(kind + " " + i, text);
-            named.put(kind + " " + i, new boolean[text.length()]);
+            take(kind + " " + i);
         }
+    }
+
+    /** Places are the headings of the parts that have no number. */
+    Sentences(String... parts) throws Exception {
+        for (String part : parts) {
+            take(part);
+        }
+    }
+
+    private void take(String newPlace) throws Exception {
+        Map<String, StringBuilder> found = read(Files.readAllLines(Path.of("../shared/DOC.md")));
+        String text = found.getOrDefault(newPlace, new StringBuilder()).toString().replaceAll("\\s+", " ");
+        texts.put(newPlace, text);
+        named.put(newPlace, new boolean[text.length()]);
     }
 
     private static Map<String, StringBuilder> read(List<String> lines) {
@@ -34,7 +45,9 @@ final class Sentences {
                 current = "section " + line.substring(3, line.indexOf('.'));
             } else if (line.matches("## Promise \\d+: .*")) {
                 current = "promise " + line.substring(11, line.indexOf(':'));
-            } else if (line.startsWith("#") || line.startsWith("Examples:")) {
+            } else if (line.startsWith("## ")) {
+                current = line.substring(3);
+            } else if (line.startsWith("# ") || line.startsWith("Examples:")) {
                 current = "";
             } else if (isPromising(line)) {
                 result.computeIfAbsent(current, key -> new StringBuilder()).append(line).append('\n');
